@@ -833,17 +833,13 @@ public final class LeftAnswers {
         }
 
         private boolean readSees(Tape text) {
-            text.advance();
-            int p = personHere(text);
-            if (p == NONE) {
+            int two = readTwo(text);
+            if (two == NONE) {
                 return false;
             }
-            text.advance();
-            int q = personHere(text);
-            if (q == NONE) {
-                return false;
-            }
-            if (p == q || (watchers[q] >>> p & 1) == 1) {
+            int p = two / MOST_PERSONS;
+            int q = two % MOST_PERSONS;
+            if ((watchers[q] >>> p & 1) == 1) {
                 return text.refuse(BAD_NAME);
             }
             watchers[q] |= 1 << p;
@@ -852,25 +848,38 @@ public final class LeftAnswers {
         }
 
         private boolean readFond(Tape text) {
-            text.advance();
-            int p = personHere(text);
-            if (p == NONE) {
+            int two = readTwo(text);
+            if (two == NONE) {
                 return false;
             }
-            text.advance();
-            int q = personHere(text);
-            if (q == NONE) {
-                return false;
-            }
-            if (p == q || fondOf(p, q) != 0) {
+            if (fond[two] != 0) {
                 return text.refuse(BAD_NAME);
             }
             text.advance();
             if (!text.takesNumber(1, 9)) {
                 return false;
             }
-            fond[p * MOST_PERSONS + q] = text.taken;
+            fond[two] = text.taken;
             return true;
+        }
+
+        /** Two unlike PERSONS as their place in the row of all twos; it stays at the second for FAULTS. */
+        private int readTwo(Tape text) {
+            text.advance();
+            int p = personHere(text);
+            if (p == NONE) {
+                return NONE;
+            }
+            text.advance();
+            int q = personHere(text);
+            if (q == NONE) {
+                return NONE;
+            }
+            if (p == q) {
+                text.refuse(BAD_NAME);
+                return NONE;
+            }
+            return p * MOST_PERSONS + q;
         }
 
         private boolean readOnce(Tape text) {
