@@ -1,4 +1,6 @@
 import java.nio.charset.StandardCharsets;
+import java.util.Set;
+import java.util.TreeSet;
 
 /** Counts the answers of one test that are and that are not as due. */
 final class Check {
@@ -11,13 +13,62 @@ final class Check {
 
     private int right;
     private int wrong;
+    private Doc doc;
+    private String sentence = "";
+    private int sentences;
+    private int ofSentence;
+    private final Set<Integer> promised = new TreeSet<>();
+
+    /** What follows is a test of this sentence of the document alone. */
+    void says(String quote) {
+        beginSentence(quote);
+        due("it stands in the document", document().says(quote), true);
+        ofSentence = 0;
+    }
+
+    /** As above, of a sentence under the heading of one promise. */
+    void promises(int number, String quote) {
+        beginSentence("promise " + number + ": " + quote);
+        promised.add(number);
+        due("it stands in the document", document().promises(number, quote), true);
+        ofSentence = 0;
+    }
+
+    /** Each of these promises has had a sentence of its own tested. */
+    void duePromises(int first, int last) {
+        for (int number = first; number <= last; number++) {
+            due("promise " + number + " is tested", promised.contains(number), true);
+        }
+    }
+
+    private void beginSentence(String title) {
+        endSentence();
+        sentence = title;
+        sentences++;
+    }
+
+    private void endSentence() {
+        if (!sentence.isEmpty() && ofSentence == 0) {
+            wrong++;
+            System.out.println("[" + sentence + "] nothing tests it");
+        }
+    }
+
+    private Doc document() {
+        if (doc == null) {
+            doc = new Doc();
+        }
+        return doc;
+    }
 
     void due(String what, long got, long want) {
+        ofSentence++;
         if (got == want) {
             right++;
         } else {
             wrong++;
-            System.out.println(what + " answered " + got + ", due is " + want);
+            String title = sentence.isEmpty() ? "" : "[" + sentence + "] ";
+            System.out.println(title + what + " answered " + got + ", due is " + want);
         }
     }
 
@@ -34,7 +85,9 @@ final class Check {
     }
 
     void close(String name) {
-        System.out.println(name + ": " + right + " answers as due, " + wrong + " not");
+        endSentence();
+        String of = sentences > 0 ? " (of " + sentences + " sentences)" : "";
+        System.out.println(name + ": " + right + " answers as due, " + wrong + " not" + of);
         if (wrong != 0) {
             System.exit(1);
         }
