@@ -108,6 +108,7 @@ public final class ActEdgesTest {
         Check.feed(x, "abc");
         check.due("none", x.end(0), true);
         check.due("none", x.count(5), 0);
+        nothingBehindTheEnd();
 
         check.promises(3, "false, if it has not so many, or n is below 0");
         x.feed(0, 0, 0, 0, 0);
@@ -119,6 +120,32 @@ public final class ActEdgesTest {
         x.end(5);
         check.due("what is gone stays gone", x.end(6), false);
         check.due("five stay", x.count(5), 5);
+    }
+
+    /** What was fed behind the end is no part of the tape, whoever reads it. */
+    private void nothingBehindTheEnd() {
+        LeftAnswers x = Check.duchyOf("person a 5 5;deed d 1 1 0;");
+        x.feed(0x00ffffff, -1, -1, -1, -1);
+        x.end(1);
+        check.due("one deed", x.parted(), 1);
+        x.feed(0x0001ffff, -1, -1, -1, -1);
+        x.end(2);
+        check.due("one pair", x.fits(), 2);
+        Check.feed(x, "day 60;!");
+        x.end(5);
+        check.due("no more digits", x.book(0), -2 - 5);
+        Check.feed(x, "day 6;!");
+        x.end(6);
+        check.due("no more signs", x.book(0), -1);
+        Check.feed(x, "weds");
+        x.end(3);
+        check.due("no more letters", x.sentence(), 1);
+        Check.feed(x, "law 5;   ");
+        x.end(6);
+        check.due("no more blanks", x.duchy(), 1);
+        Check.feed(x, "law    ");
+        x.end(4);
+        check.due("no more blanks", x.duchy(), -1 - 4);
     }
 
     private void duchyOfTheTape() {

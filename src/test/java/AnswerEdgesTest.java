@@ -629,6 +629,8 @@ public final class AnswerEdgesTest {
         Check.sentence(x, "number>2 and number<6");
         x.image(0);
         x.duchy();
+        Check.sentence(x, "number=0 and number=1");
+        Check.sentence(x, "number=1 and number=0");
         x.restore(0);
         check.due("fondness, too", x.best(), 8);
         check.dueRow("the sentence, too", new int[] {x.said(-1), x.said(0), x.said(2)}, 3, 3, 5);

@@ -347,9 +347,10 @@ public final class TextEdgesTest {
         x.does(5, 1, 2);
         x.wed(3, 6);
         x.glove(0);
+        x.glove(2);
         check.says("'jailed' | 'gloved' | 'wed'");
         said(x, "jailed", 2);
-        said(x, "gloved", 1);
+        said(x, "gloved", 1 | 4);
         said(x, "wed", 8 | 64);
         check.says("'busy' (a hand of his did something today)");
         said(x, "busy", 2 | 16 | 32);
