@@ -322,6 +322,8 @@ public final class TextEdgesTest {
         x.wed(0, 1);
         check.due("twenty by 'and'", x.said(0), 1);
         sentenceFault("wed or ".repeat(20) + "wed", 4, 140);
+        sentenceFault("wed and ".repeat(20) + "wed", 4, 160);
+        sentenceFault("wed and wed or ".repeat(10) + "wed", 4, 150);
         sentence("not ".repeat(7) + "wed", 8);
         sentenceFault("not ".repeat(8) + "wed", 4, 32);
         sentence("(((((((wed)))))))", 8);
