@@ -5,6 +5,7 @@ import java.lang.reflect.Method;
 import java.lang.reflect.Modifier;
 import java.nio.file.Files;
 import java.nio.file.Path;
+import java.util.NoSuchElementException;
 import java.util.Set;
 import java.util.TreeSet;
 import java.util.regex.Matcher;
@@ -38,6 +39,11 @@ public final class FaceTest {
                 found.add(m.getName() + "/" + m.getParameterCount());
                 boolean isBoolean = m.getReturnType() == boolean.class;
                 check.due(m.getName() + " answers a boolean", isBoolean, BOOLEANS.contains(m.getName()));
+                boolean isPerson = m.getName().equals("person");
+                check.due(m.getName() + " tells that it throws", m.getExceptionTypes().length, isPerson ? 1 : 0);
+                for (Class<?> type : m.getExceptionTypes()) {
+                    check.due(m.getName() + " throws", type == NoSuchElementException.class, true);
+                }
                 for (Class<?> type : m.getParameterTypes()) {
                     check.due(m.getName() + " takes ints", type == int.class, true);
                 }
@@ -49,8 +55,11 @@ public final class FaceTest {
         check.due("the methods of the face: " + found, found.equals(due), true);
         for (Field f : LeftAnswers.class.getDeclaredFields()) {
             boolean isNone = f.getName().equals("NONE");
+            int publicConstant = Modifier.PUBLIC | Modifier.STATIC | Modifier.FINAL;
+            check.due(f.getName() + " is public and constant", f.getModifiers() == publicConstant, isNone);
             check.due(f.getName() + " is private", Modifier.isPrivate(f.getModifiers()), !isNone);
         }
+        check.due("NONE", LeftAnswers.NONE, -1);
         Constructor<?>[] makers = LeftAnswers.class.getDeclaredConstructors();
         check.due("constructors", makers.length, 1);
         check.due("it is public", Modifier.isPublic(makers[0].getModifiers()), true);
